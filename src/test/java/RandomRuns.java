@@ -998,6 +998,60 @@ public final class RandomRuns {
             }
         }
 
+        void appendTo(int w, int partitions) {
+            same("append(" + w + ")", table.append(w), model.append(w));
+            for (int p = 0; p < partitions; p++) {
+                row(w, p, p, p, p);
+            }
+        }
+
+        void files(int version, int want) {
+            same("files(" + version + ")", table.files(version), model.files(version));
+            same("files(" + version + ") as told", want, model.files(version));
+        }
+
+        /** 80 FILES, of which a forged CHECKPOINT tells other numbers, so that the vacuum takes all their DATA. */
+        void addFilesThatAreGone(int to) {
+            for (int k = 0; k < 10; k++) {
+                appendTo(0, 8);
+                finish(0);
+            }
+            int v = model.latest();
+            same("checkpoint(" + v + ")", table.checkpoint(v), model.checkpoint(v));
+            TreeMap<Integer, Integer> files = new TreeMap<>();
+            model.read(v).forEach((number, partition) -> files.put(number < 1000 ? to + number : number, 0));
+            forge(CHECKPOINT, v, checkpointBytes(v, files));
+            same("vacuum(0)", table.vacuum(0), model.vacuum(0));
+        }
+
+        /** 200 FILES can be READ, and no more, not even on the way. */
+        void manyFiles() {
+            same("room(20000)", table.room(20000), model.room(20000));
+            addFilesThatAreGone(10000);
+            addFilesThatAreGone(20000);
+            int v = model.latest();
+            files(v, 160);
+            for (int k = 0; k < 5; k++) {
+                appendTo(0, 8);
+                finish(0);
+            }
+            files(v + 5, 200);
+            same("delete(0,1,0,1,0)", table.delete(0, 1, 0, 1, 0), model.delete(0, 1, 0, 1, 0));
+            step(0);
+            appendTo(2, 1);
+            finish(2);
+            files(v + 6, NONE);
+            files(v + 5, 200);
+            same("checkpoint", table.checkpoint(v + 6), model.checkpoint(v + 6));
+            same("vacuum(1)", table.vacuum(1), model.vacuum(1));
+            same("append(3)", table.append(3), model.append(3));
+            step(3);
+            finish(0);
+            same("latest()", table.latest(), v + 7);
+            files(v + 7, NONE);
+            whole();
+        }
+
         void go(int turns, int harm) {
             for (int t = 0; t < turns && !failed; t++) {
                 int kind = dice.nextInt(100);
@@ -1026,6 +1080,7 @@ public final class RandomRuns {
         for (int r = 0; r < runs; r++) {
             new Run(r).go(40 + r % 5 * 60, r % 3 * 4);
         }
+        new Run(-1).manyFiles();
         System.out.println(calls + " calls; " + seen);
         System.out.println(wrong == 0 ? "all answers are as due" : wrong + " runs have answers that are not as due");
         if (wrong != 0) {
