@@ -316,6 +316,11 @@ public final class PromiseTests {
             due("row " + i, x.at(2, 2 + i, 1), i < 25 ? i : 75 + i);
         }
         due("no more", x.at(2, 52, 1), NONE);
+        x = withVersions(12);
+        x.compact(0, 0);
+        due("steps", finish(x, 0), "123");
+        due("an ENTRY of 13 actions", x.size(ENTRY, 12), 88);
+        due("FILES", x.files(12), 1);
         x = withVersions(2);
         x.compact(0, 0);
         finish(x, 0);
