@@ -1,91 +1,12 @@
-import java.util.zip.CRC32;
-
-/** For each promise of the document: ordinary calls, the edges it names, and wrong inputs, with the answers due. */
-public final class PromiseTests {
-    private static final int NONE = -1;
-    private static final int MISSING = Integer.MIN_VALUE;
-    private static final int DATA = 0;
-    private static final int ENTRY = 1;
-    private static final int CHECKPOINT = 2;
+/** Each promise of the document by an ordinary run of calls; the edges stand in the tests of boundaries. */
+public final class PromiseTests extends Suite {
     private static final int BIG = 1 << 30;
-    private static final int[] WRONG = {Integer.MIN_VALUE, -2, 100000, Integer.MAX_VALUE};
-
-    private static int wrong = 0;
-    private static String part = "";
-
-    private static void due(String call, long got, long want) {
-        if (got != want) {
-            wrong++;
-            System.out.println(part + ": " + call + " answered " + got + ", due is " + want);
-        }
-    }
-
-    private static void due(String call, boolean got, boolean want) {
-        due(call, got ? 1 : 0, want ? 1 : 0);
-    }
-
-    private static void due(String call, String got, String want) {
-        if (!got.equals(want)) {
-            wrong++;
-            System.out.println(part + ": " + call + " answered " + got + ", due is " + want);
-        }
-    }
-
-    // ---------------------------------------------------------------- helpers
-
-    /** Steps of a writer until it is over, each answer a digit; a FAILED one as "-n" at the end. */
-    private static String finish(LakeTable x, int w) {
-        StringBuilder steps = new StringBuilder();
-        for (int i = 0; i < 200 && x.writer(w, 0) == 1; i++) {
-            steps.append(x.step(w));
-        }
-        return steps.toString();
-    }
-
-    private static void appendOne(LakeTable x, int w, int partition, int a) {
-        due("append", x.append(w), true);
-        due("row", x.row(w, partition, a, a + 1, a + 2), 1);
-    }
-
-    /** Versions, each of one DATA object of one ROW of PARTITION 0: (v, v + 1, v + 2). */
-    private static LakeTable withVersions(int many) {
-        LakeTable x = new LakeTable();
-        for (int v = 0; v < many; v++) {
-            appendOne(x, 0, 0, v);
-            due("steps", finish(x, 0), "123");
-        }
-        return x;
-    }
-
-    private static String hex(LakeTable x, int sort, int number) {
-        StringBuilder text = new StringBuilder();
-        for (int i = 0; i < x.size(sort, number); i++) {
-            text.append(String.format("%02x", x.octet(sort, number, i)));
-        }
-        return text.toString();
-    }
-
-    /** Makes the CHECK of an OBJECT right again. */
-    private static void seal(LakeTable x, int sort, int number) {
-        int end = x.size(sort, number) - 4;
-        CRC32 crc = new CRC32();
-        for (int i = 0; i < end; i++) {
-            crc.update(x.octet(sort, number, i));
-        }
-        for (int i = 0; i < 4; i++) {
-            x.spoil(sort, number, end + i, (int) (crc.getValue() >> (24 - 8 * i)));
-        }
-    }
-
-    private static void forge(LakeTable x, int sort, int number, int i, int b) {
-        x.spoil(sort, number, i, b);
-        seal(x, sort, number);
-    }
+    private static final int[] WRONG = {Integer.MIN_VALUE, -2, 100000, MAX};
 
     // ---------------------------------------------------------------- promises
 
     private static void promise1() {
-        LakeTable x = new LakeTable();
+        Lake x = new Lake();
         due("NONE", LakeTable.NONE, NONE);
         due("MISSING", LakeTable.MISSING, MISSING);
         for (int what = 0; what <= 7; what++) {
@@ -100,7 +21,7 @@ public final class PromiseTests {
     }
 
     private static void promise2() {
-        LakeTable x = new LakeTable();
+        Lake x = new Lake();
         due("room", x.room(99), NONE);
         due("room", x.room(20001), NONE);
         due("room", x.room(100), 6000);
@@ -110,14 +31,14 @@ public final class PromiseTests {
         }
         due("room", x.room(6000), 20000);
         // One ROW: 40 bytes of DATA and 16 of ENTRY; just so many are let in, and one less refuses.
-        LakeTable y = withVersions(2);
+        Lake y = Lake.withVersions(2);
         due("bytes", y.count(1), 112);
         y.room(112 + 56);
-        appendOne(y, 1, 0, 3);
-        due("steps", finish(y, 1), "123");
+        y.begin(1, 0, 3);
+        due("steps", y.finish(1), "123");
         y.room(168 + 55);
-        appendOne(y, 1, 0, 3);
-        due("steps", finish(y, 1), "12-1");
+        y.begin(1, 0, 3);
+        due("steps", y.finish(1), "12-1");
         due("bytes", y.count(1), 208);
         y.room(100);
         due("checkpoint", y.checkpoint(0), -2);
@@ -125,7 +46,7 @@ public final class PromiseTests {
     }
 
     private static void promise3() {
-        LakeTable x = new LakeTable();
+        Lake x = new Lake();
         due("tries", x.tries(0), NONE);
         due("tries", x.tries(9), NONE);
         for (int n : WRONG) {
@@ -134,25 +55,25 @@ public final class PromiseTests {
         due("tries", x.tries(1), 3);
         due("tries", x.tries(8), 1);
         due("tries", x.tries(1), 8);
-        appendOne(x, 0, 0, 1);
+        x.begin(0, 0, 1);
         due("tries", x.tries(2), 1);
-        appendOne(x, 1, 0, 1);
+        x.begin(1, 0, 1);
         x.step(0);
         x.step(0);
         x.step(1);
         x.step(1);
-        appendOne(x, 2, 0, 1);
-        due("steps", finish(x, 2), "123");
+        x.begin(2, 0, 1);
+        due("steps", x.finish(2), "123");
         due("one try, told as it began", x.step(0), -3);
         due("the first of two", x.step(1), 4);
         due("look", x.step(1), 5);
-        appendOne(x, 2, 0, 1);
-        due("steps", finish(x, 2), "123");
+        x.begin(2, 0, 1);
+        due("steps", x.finish(2), "123");
         due("the last of two", x.step(1), -3);
     }
 
     private static void promise4() {
-        LakeTable x = new LakeTable();
+        Lake x = new Lake();
         due("append", x.append(0), true);
         due("append", x.append(0), false);
         due("append", x.append(3), true);
@@ -170,7 +91,7 @@ public final class PromiseTests {
         // ROWS go to one DATA object for each PARTITION, by PARTITIONS, in the order they came.
         x.row(0, 0, 7, 7, 7);
         x.row(0, 1, 2, 2, 2);
-        due("steps", finish(x, 0), "1223");
+        due("steps", x.finish(0), "1223");
         due("PARTITION of FILE 0", x.octet(DATA, 0, 1), 0);
         due("PARTITION of FILE 1", x.octet(DATA, 1, 1), 1);
         due("row 0", x.at(0, 0, 1), 7);
@@ -180,7 +101,7 @@ public final class PromiseTests {
     }
 
     private static void promise5() {
-        LakeTable x = new LakeTable();
+        Lake x = new Lake();
         due("row of none", x.row(0, 0, 1, 1, 1), NONE);
         x.append(0);
         for (int i = 1; i <= 48; i++) {
@@ -206,39 +127,39 @@ public final class PromiseTests {
     }
 
     private static void promise5Bytes() {
-        LakeTable x = new LakeTable();
+        Lake x = new Lake();
         x.append(0);
         x.row(0, 2, BIG, 5, BIG);
         x.row(0, 2, BIG, 6, -BIG);
         x.row(0, 2, BIG, 4, 12345678);
-        due("steps", finish(x, 0), "123");
-        due("three ways", hex(x, DATA, 0), "54020301000340000000400000004000000002000a0203000000040000000600"
+        due("steps", x.finish(0), "123");
+        due("three ways", x.hex(DATA, 0), "54020301000340000000400000004000000002000a0203000000040000000600"
             + "0040000000c000000000bc614ec000000040000000f7a8b49a");
-        due("ENTRY", hex(x, ENTRY, 0), "4c0000000001010000000002cd998523");
+        due("ENTRY", x.hex(ENTRY, 0), "4c0000000001010000000002cd998523");
         x.append(0);
         for (int i = 0; i < 9; i++) {
             x.row(0, 7, i == 3 ? 9 : MISSING, i < 3 ? 1 : i == 3 ? MISSING : 2, MISSING);
         }
-        due("steps", finish(x, 0), "123");
-        due("MISSING ones", hex(x, DATA, 1), "54070902ef80120000000900000009021000020000020000000000000001"
+        due("steps", x.finish(0), "123");
+        due("MISSING ones", x.hex(DATA, 1), "54070902ef80120000000900000009021000020000020000000000000001"
             + "0000000200ff800000000000000000e6800921");
         x.append(0);
-        x.row(0, 0, 1 << 20, 1 << 20, Integer.MAX_VALUE);
-        x.row(0, 0, 1 << 20, MISSING, -Integer.MAX_VALUE);
-        due("steps", finish(x, 0), "123");
-        due("of like ways the least, going round", hex(x, DATA, 2), "540002010002001000000010000000100000004000"
+        x.row(0, 0, 1 << 20, 1 << 20, MAX);
+        x.row(0, 0, 1 << 20, MISSING, -MAX);
+        due("steps", x.finish(0), "123");
+        due("of like ways the least, going round", x.hex(DATA, 2), "540002010002001000000010000000100000004000"
             + "10000000100000001000000200feffffff0f04800000017fffffffc9550dbf");
         x.append(0);
         x.row(0, 1, 0, -1, 63);
         x.row(0, 1, 64, -65, 8191 + 64);
-        due("steps", finish(x, 0), "123");
-        due("edges of VARINTS", hex(x, DATA, 3), "540102020000800100000000000000400200017fffffffbfffffffff02007e"
+        due("steps", x.finish(0), "123");
+        due("edges of VARINTS", x.hex(DATA, 3), "540102020000800100000000000000400200017fffffffbfffffffff02007e"
             + "8080010000003f0000203f64eb83a0");
     }
 
     private static void promise6() {
-        LakeTable x = new LakeTable();
-        for (int n : new int[] {-1, 8, MISSING, Integer.MAX_VALUE}) {
+        Lake x = new Lake();
+        for (int n : new int[] {-1, 8, MISSING, MAX}) {
             due("delete", x.delete(0, n, 0, 0, 0), false);
             due("delete", x.delete(0, 0, n, 0, 0), false);
             due("delete", x.delete(0, 0, 0, n, 0), false);
@@ -256,12 +177,12 @@ public final class PromiseTests {
         x.row(0, 0, 1, 1, 1);
         x.row(0, 0, 2, 2, 2);
         x.row(0, 0, MISSING, 3, 3);
-        finish(x, 0);
+        x.finish(0);
         x.append(0);
         x.row(0, 0, 5, 5, 5);
         x.row(0, 0, 6, 6, 6);
         x.row(0, 1, 1, 1, 1);
-        finish(x, 0);
+        x.finish(0);
         due("none is less", x.delete(0, 0, 0, 0, 1), true);
         due("done at once", x.step(0), 6);
         x.delete(0, 0, 0, 2, 4);
@@ -269,22 +190,22 @@ public final class PromiseTests {
         x.delete(0, 0, 0, 1, 7);
         due("none is not less", x.step(0), 6);
         x.delete(0, 0, 0, 1, 2);
-        due("steps", finish(x, 0), "123");
-        due("ENTRY", hex(x, ENTRY, 2).substring(0, 48), "4c0000000203020000000000020000000100010000000300");
+        due("steps", x.finish(0), "123");
+        due("ENTRY", x.hex(ENTRY, 2).substring(0, 48), "4c0000000203020000000000020000000100010000000300");
         due("files", x.files(2), 2);
         due("left", x.at(2, 1, 1), 1);
         due("MISSING is left", x.at(2, 2, 1), MISSING);
         due("MISSING is left", x.at(2, 2, 2), 3);
         due("another PARTITION stays", x.at(2, 0, 0), 1);
         x.delete(0, 1, 1, 0, 2);
-        due("a FILE with nothing left", finish(x, 0), "13");
+        due("a FILE with nothing left", x.finish(0), "13");
         due("files", x.files(3), 1);
         due("version 1 stays", x.files(1), 3);
     }
 
     private static void promise7() {
-        LakeTable x = new LakeTable();
-        for (int n : new int[] {-1, 8, MISSING, Integer.MAX_VALUE}) {
+        Lake x = new Lake();
+        for (int n : new int[] {-1, 8, MISSING, MAX}) {
             due("compact", x.compact(0, n), false);
             due("compact", x.compact(n, 0), false);
         }
@@ -292,23 +213,23 @@ public final class PromiseTests {
         due("compact", x.compact(3, 7), true);
         due("compact", x.compact(3, 7), false);
         due("step", x.step(3), 6);
-        x = withVersions(1);
+        x = Lake.withVersions(1);
         x.compact(0, 0);
         due("one FILE is not enough", x.step(0), 6);
-        x = new LakeTable();
+        x = new Lake();
         for (int k = 0; k < 2; k++) {
             x.append(0);
             for (int i = 0; i < 25; i++) {
                 x.row(0, 3, 100 * k + i, k, MISSING);
             }
             x.row(0, 2, 1, 2, 3);
-            finish(x, 0);
+            x.finish(0);
         }
         x.compact(1, 3);
         due("step", x.step(1), 1);
         due("REMOVES", x.writer(1, 5), 2);
         due("to PUT", x.writer(1, 4), 2);
-        due("steps", finish(x, 1), "223");
+        due("steps", x.finish(1), "223");
         due("48 ROWS", x.octet(DATA, 4, 2), 48);
         due("what is left", x.octet(DATA, 5, 2), 2);
         due("FILES", x.files(2), 4);
@@ -316,28 +237,28 @@ public final class PromiseTests {
             due("row " + i, x.at(2, 2 + i, 1), i < 25 ? i : 75 + i);
         }
         due("no more", x.at(2, 52, 1), NONE);
-        x = withVersions(12);
+        x = Lake.withVersions(12);
         x.compact(0, 0);
-        due("steps", finish(x, 0), "123");
+        due("steps", x.finish(0), "123");
         due("an ENTRY of 13 actions", x.size(ENTRY, 12), 88);
         due("FILES", x.files(12), 1);
-        x = withVersions(2);
+        x = Lake.withVersions(2);
         x.compact(0, 0);
-        finish(x, 0);
-        due("ENTRY", hex(x, ENTRY, 2).substring(0, 48), "4c0000000203020000000000020000000100010000000200");
+        x.finish(0);
+        due("ENTRY", x.hex(ENTRY, 2).substring(0, 48), "4c0000000203020000000000020000000100010000000200");
     }
 
     private static void promise8() {
-        LakeTable x = new LakeTable();
+        Lake x = new Lake();
         due("not at work", x.step(0), 0);
         due("no writer", x.step(4), 0);
         for (int w : WRONG) {
             due("no writer", x.step(w), 0);
         }
         // Three writers of one BASE: the second loses and looks, a DELETE of the same PARTITION is in conflict.
-        x = withVersions(1);
-        appendOne(x, 0, 0, 5);
-        appendOne(x, 1, 1, 6);
+        x = Lake.withVersions(1);
+        x.begin(0, 0, 5);
+        x.begin(1, 1, 6);
         x.delete(2, 0, 0, 1, 0);
         x.delete(3, 1, 0, 1, 0);
         due("START", x.step(0), 1);
@@ -360,19 +281,19 @@ public final class PromiseTests {
     }
 
     private static void promise8Failures() {
-        LakeTable x = withVersions(2);
+        Lake x = Lake.withVersions(2);
         // A conflict only with its own PARTITION.
         x.compact(0, 0);
         x.step(0);
-        appendOne(x, 1, 1, 1);
-        finish(x, 1);
-        due("WRITE, LOST, LOOK, COMMIT", finish(x, 0), "2453");
+        x.begin(1, 1, 1);
+        x.finish(1);
+        due("WRITE, LOST, LOOK, COMMIT", x.finish(0), "2453");
         // An ENTRY that is DAMAGED when it is looked at.
-        appendOne(x, 0, 1, 1);
+        x.begin(0, 1, 1);
         x.step(0);
         x.step(0);
-        appendOne(x, 1, 1, 1);
-        finish(x, 1);
+        x.begin(1, 1, 1);
+        x.finish(1);
         x.spoil(ENTRY, 4, 0, 0);
         due("LOST", x.step(0), 4);
         due("LOOK", x.step(0), -4);
@@ -385,7 +306,7 @@ public final class PromiseTests {
         x.append(2);
         due("START", x.step(2), 6);
         // FILES of the PARTITION that are DAMAGED fail a DELETE and a COMPACT, no APPEND.
-        x = withVersions(2);
+        x = Lake.withVersions(2);
         x.spoil(DATA, 1, 0, 0);
         x.delete(0, 0, 0, 2, 0);
         due("DELETE", x.step(0), -4);
@@ -394,48 +315,48 @@ public final class PromiseTests {
         due("COMPACT", x.step(0), -4);
         x.delete(0, 1, 0, 2, 0);
         due("DELETE of another PARTITION", x.step(0), 6);
-        appendOne(x, 0, 0, 0);
-        due("APPEND", finish(x, 0), "123");
+        x.begin(0, 0, 0);
+        due("APPEND", x.finish(0), "123");
         due("FAILED", x.count(6), 2);
         // There are 100 OBJECTS.
-        x = new LakeTable();
+        x = new Lake();
         x.room(20000);
         for (int k = 0; k < 50; k++) {
-            appendOne(x, 0, k % 8, k);
-            due("steps", finish(x, 0), "123");
+            x.begin(0, k % 8, k);
+            due("steps", x.finish(0), "123");
         }
-        appendOne(x, 0, 0, 0);
-        due("100 OBJECTS", finish(x, 0), "1-1");
+        x.begin(0, 0, 0);
+        due("100 OBJECTS", x.finish(0), "1-1");
         due("still to PUT", x.writer(0, 4), 1);
         due("next number", x.count(2), 50);
         x.delete(0, 0, 0, 1, 0);
-        due("no ENTRY either", finish(x, 0), "1-1");
+        due("no ENTRY either", x.finish(0), "1-1");
         due("checkpoint", x.checkpoint(3), -2);
         due("OBJECTS", x.count(0), 100);
     }
 
     /** What a writer found as it STARTED is what it writes, whatever is spoiled then. */
     private static void promise8Start() {
-        LakeTable x = withVersions(2);
+        Lake x = Lake.withVersions(2);
         x.compact(0, 0);
         x.step(0);
         x.spoil(DATA, 0, 0, 0);
         x.spoil(DATA, 1, 5, 99);
-        due("steps", finish(x, 0), "23");
+        due("steps", x.finish(0), "23");
         due("rows", x.at(2, 0, 1), 0);
         due("rows", x.at(2, 1, 1), 1);
     }
 
     private static void promise9() {
-        LakeTable x = new LakeTable();
+        Lake x = new Lake();
         due("crash", x.crash(0), false);
         due("crash", x.crash(4), false);
         for (int w : WRONG) {
             due("crash", x.crash(w), false);
         }
-        appendOne(x, 0, 0, 1);
+        x.begin(0, 0, 1);
         due("crash ahead of START", x.crash(0), true);
-        appendOne(x, 0, 0, 1);
+        x.begin(0, 0, 1);
         x.row(0, 1, 1, 1, 1);
         x.step(0);
         x.step(0);
@@ -446,13 +367,13 @@ public final class PromiseTests {
         due("no FAILED one", x.count(6), 0);
         due("PUT", x.writer(0, 3), 1);
         due("still to", x.writer(0, 4), 1);
-        appendOne(x, 0, 0, 1);
-        due("steps", finish(x, 0), "123");
+        x.begin(0, 0, 1);
+        due("steps", x.finish(0), "123");
         due("its number is a new one", x.file(0, 0), 1);
     }
 
     private static void promise10() {
-        LakeTable x = new LakeTable();
+        Lake x = new Lake();
         int[] ahead = {0, NONE, 0, 0, 0, 0, NONE};
         for (int what = 0; what < 7; what++) {
             due("writer ahead of any", x.writer(3, what), ahead[what]);
@@ -488,8 +409,8 @@ public final class PromiseTests {
         x.step(0);
         due("BASE", x.writer(0, 1), 0);
         due("REMOVES", x.writer(0, 5), 1);
-        appendOne(x, 1, 7, 1);
-        finish(x, 1);
+        x.begin(1, 7, 1);
+        x.finish(1);
         due("LOST", x.step(0), 4);
         due("tries LOST", x.writer(0, 2), 1);
         due("LOOK", x.step(0), 5);
@@ -503,17 +424,17 @@ public final class PromiseTests {
     }
 
     private static void promise11() {
-        LakeTable x = new LakeTable();
+        Lake x = new Lake();
         due("checkpoint", x.checkpoint(0), -1);
         due("checkpoint", x.checkpoint(-1), -1);
-        x = withVersions(3);
+        x = Lake.withVersions(3);
         for (int n : WRONG) {
             due("checkpoint", x.checkpoint(n), -1);
         }
         due("checkpoint", x.checkpoint(3), -1);
         due("checkpoint", x.checkpoint(1), 1);
         due("checkpoint", x.checkpoint(1), 0);
-        due("bytes", hex(x, CHECKPOINT, 1).substring(0, 32), "43000000010200000000000000000100");
+        due("bytes", x.hex(CHECKPOINT, 1).substring(0, 32), "43000000010200000000000000000100");
         due("size", x.size(CHECKPOINT, 1), 20);
         due("CHECKPOINTS", x.count(3), 1);
         x.spoil(CHECKPOINT, 1, 0, 0);
@@ -526,24 +447,24 @@ public final class PromiseTests {
         x.room(100);
         x.spoil(ENTRY, 2, 0, 76);
         due("no room", x.checkpoint(2), -2);
-        LakeTable y = withVersions(2);
+        Lake y = Lake.withVersions(2);
         y.delete(0, 0, 0, 1, 0);
-        finish(y, 0);
+        y.finish(0);
         due("of no FILES", y.checkpoint(2), 1);
         due("size", y.size(CHECKPOINT, 2), 10);
         due("FILES", y.files(2), 0);
         y.append(0);
         y.row(0, 3, 1, 2, 3);
-        finish(y, 0);
+        y.finish(0);
         y.spoil(ENTRY, 1, 0, 0);
         due("READ by it and the ENTRIES behind", y.files(3), 1);
         due("NONE without it", y.files(1), NONE);
     }
 
     private static void promise12() {
-        LakeTable x = new LakeTable();
+        Lake x = new Lake();
         due("empty", x.vacuum(0), NONE);
-        x = withVersions(4);
+        x = Lake.withVersions(4);
         due("n", x.vacuum(-1), NONE);
         due("n", x.vacuum(1001), NONE);
         for (int n : WRONG) {
@@ -553,7 +474,7 @@ public final class PromiseTests {
         due("all are RETAINED", x.vacuum(1000), 0);
         due("the OLDEST has a CHECKPOINT", x.size(CHECKPOINT, 0), 15);
         x.compact(0, 0);
-        finish(x, 0);
+        x.finish(0);
         // Versions 3 and 4: CHECKPOINT 0 goes, and ENTRIES 0 to 2.
         due("vacuum", x.vacuum(1), 4);
         due("FLOOR", x.files(2), NONE);
@@ -568,7 +489,7 @@ public final class PromiseTests {
         due("taken", x.count(7), 10);
         due("-1 as version", x.files(-1), 0);
         // The DATA of a writer that CRASHED goes.
-        appendOne(x, 0, 0, 9);
+        x.begin(0, 0, 9);
         x.step(0);
         x.step(0);
         due("kept while at work", x.vacuum(0), 0);
@@ -579,46 +500,46 @@ public final class PromiseTests {
 
     private static void promise12Writers() {
         // A writer with BASE NONE keeps all ENTRIES, and one at work the FILES of its BASE.
-        LakeTable x = new LakeTable();
-        appendOne(x, 3, 5, 1);
+        Lake x = new Lake();
+        x.begin(3, 5, 1);
         x.step(3);
         for (int k = 0; k < 3; k++) {
-            appendOne(x, 0, 0, k);
-            finish(x, 0);
+            x.begin(0, 0, k);
+            x.finish(0);
         }
-        appendOne(x, 2, 0, 1);
+        x.begin(2, 0, 1);
         due("not STARTED", x.vacuum(0), 0);
         x.compact(1, 0);
         x.step(1);
         x.crash(2);
         x.delete(0, 0, 0, 1, 0);
-        finish(x, 0);
+        x.finish(0);
         due("FLOOR", x.files(2), 3);
         due("CHECKPOINT 2 alone", x.vacuum(0), 1);
         due("FLOOR", x.files(2), NONE);
         due("ENTRY", x.size(ENTRY, 0), 16);
-        due("COMPACT goes on: WRITE, LOST, conflict", finish(x, 1), "24-2");
+        due("COMPACT goes on: WRITE, LOST, conflict", x.finish(1), "24-2");
         due("its FILES and what it wrote", x.vacuum(0), 4);
-        due("WRITE, LOST thrice", finish(x, 3), "24545-3");
+        due("WRITE, LOST thrice", x.finish(3), "24545-3");
         due("ENTRIES and what it wrote", x.vacuum(0), 4);
         due("objects", x.count(0), 2);
         // The greatest BASE does not matter, the least does.
-        LakeTable y = withVersions(3);
-        appendOne(y, 1, 1, 1);
+        Lake y = Lake.withVersions(3);
+        y.begin(1, 1, 1);
         y.step(1);
-        appendOne(y, 0, 1, 1);
-        finish(y, 0);
-        appendOne(y, 0, 1, 1);
-        finish(y, 0);
-        appendOne(y, 2, 1, 1);
+        y.begin(0, 1, 1);
+        y.finish(0);
+        y.begin(0, 1, 1);
+        y.finish(0);
+        y.begin(2, 1, 1);
         y.step(2);
         due("ENTRIES 0 to 2 go", y.vacuum(0), 3);
         due("ENTRY 3 stays", y.size(ENTRY, 3), 16);
-        due("steps", finish(y, 1), "245453");
+        due("steps", y.finish(1), "245453");
     }
 
     private static void promise12Refused() {
-        LakeTable x = withVersions(3);
+        Lake x = Lake.withVersions(3);
         x.spoil(ENTRY, 1, 0, 0);
         due("can't be READ", x.vacuum(0), NONE);
         x.spoil(ENTRY, 1, 0, 76);
@@ -629,7 +550,7 @@ public final class PromiseTests {
         // A DAMAGED CHECKPOINT of the OLDEST: no FLOOR, but DATA that no RETAINED version has goes.
         x.checkpoint(0);
         x.compact(0, 0);
-        finish(x, 0);
+        x.finish(0);
         x.checkpoint(3);
         x.spoil(CHECKPOINT, 3, 0, 0);
         due("DATA alone", x.vacuum(0), 3);
@@ -637,7 +558,7 @@ public final class PromiseTests {
         due("their FILES are gone", x.find(1, 0, 1, 0), 0);
         due("gone", x.found(2), 2);
         // RETAINED ones that can be READ, in spite of an ENTRY that is not needed.
-        LakeTable y = withVersions(3);
+        Lake y = Lake.withVersions(3);
         y.checkpoint(1);
         y.spoil(ENTRY, 0, 0, 0);
         due("all but version 0", y.vacuum(2), NONE);
@@ -645,15 +566,15 @@ public final class PromiseTests {
     }
 
     private static void promise13() {
-        LakeTable x = new LakeTable();
+        Lake x = new Lake();
         due("latest", x.latest(), NONE);
-        appendOne(x, 0, 0, 0);
+        x.begin(0, 0, 0);
         x.step(0);
         x.step(0);
         due("ahead of COMMIT", x.latest(), NONE);
         x.step(0);
         due("latest", x.latest(), 0);
-        x = withVersions(3);
+        x = Lake.withVersions(3);
         x.spoil(ENTRY, 2, 0, 0);
         due("DAMAGED too", x.latest(), 2);
         x.spoil(ENTRY, 2, 0, 76);
@@ -662,10 +583,10 @@ public final class PromiseTests {
     }
 
     private static void promise14() {
-        LakeTable x = new LakeTable();
+        Lake x = new Lake();
         due("files", x.files(-1), 0);
         due("files", x.files(0), NONE);
-        x = withVersions(3);
+        x = Lake.withVersions(3);
         due("files", x.files(-1), 0);
         due("files", x.files(0), 1);
         due("files", x.files(2), 3);
@@ -676,59 +597,10 @@ public final class PromiseTests {
         x.spoil(ENTRY, 1, 15, 0);
         due("DAMAGED", x.files(2), NONE);
         due("ahead of it", x.files(0), 1);
-        promise14Damage();
-    }
-
-    /** What makes an ENTRY or a CHECKPOINT DAMAGED though its CHECK is right, and what does not. */
-    private static void promise14Damage() {
-        LakeTable x = withVersions(4);
-        x.compact(0, 0);
-        finish(x, 0);
-        // ENTRY 4: REMOVES 0 1 2 3, then ADD 4; actions of 6 bytes from byte 6 on.
-        due("files", x.files(4), 1);
-        entryWith(x, 0, 75, NONE);
-        entryWith(x, 4, 5, NONE);
-        entryWith(x, 5, 4, NONE);
-        entryWith(x, 6, 1, NONE);
-        entryWith(x, 6, 3, NONE);
-        entryWith(x, 6, 0, NONE);
-        entryWith(x, 10, 1, NONE);
-        entryWith(x, 10, 2, NONE);
-        entryWith(x, 7, 128, NONE);
-        entryWith(x, 28, 9, 2);
-        entryWith(x, 28, 2, NONE);
-        entryWith(x, 31, 128, NONE);
-        entryWith(x, 31, 127, 1);
-        entryWith(x, 34, 0, 1);
-        entryWith(x, 11, 7, 1);
-        entryWith(x, 11, 8, NONE);
-        entryWith(x, 24, 1, 2);
-        due("CHECKPOINT", x.checkpoint(3), 1);
-        // CHECKPOINT 3: FILES 0 1 2 3 of 5 bytes from byte 6 on.
-        for (int[] told : new int[][] {{0, 66}, {4, 4}, {5, 3}, {9, 1}, {24, 2}, {6, 128}, {10, 8}}) {
-            int was = x.octet(CHECKPOINT, 3, told[0]);
-            forge(x, CHECKPOINT, 3, told[0], told[1]);
-            x.spoil(ENTRY, 3, 0, 0);
-            due("files, byte " + told[0] + " of the CHECKPOINT " + told[1], x.files(3), NONE);
-            x.spoil(ENTRY, 3, 0, 76);
-            due("files by ENTRIES", x.files(3), 4);
-            forge(x, CHECKPOINT, 3, told[0], was);
-        }
-        forge(x, CHECKPOINT, 3, 24, 90);
-        due("a CHECKPOINT that is as it should be is taken", x.file(3, 3), 90);
-        due("an ADD that is there, a REMOVE that is not", x.files(4), 2);
-    }
-
-    private static void entryWith(LakeTable x, int i, int b, int files) {
-        int was = x.octet(ENTRY, 4, i);
-        forge(x, ENTRY, 4, i, b);
-        due("files, byte " + i + " of ENTRY 4 " + b, x.files(4), files);
-        forge(x, ENTRY, 4, i, was);
-        due("files", x.files(4), 1);
     }
 
     private static void promise15() {
-        LakeTable x = withVersions(3);
+        Lake x = Lake.withVersions(3);
         due("file", x.file(2, 0), 0);
         due("file", x.file(2, 2), 2);
         due("file", x.file(2, 3), NONE);
@@ -740,7 +612,7 @@ public final class PromiseTests {
             due("file", x.file(n, 0), NONE);
         }
         x.delete(0, 0, 0, 2, 1);
-        finish(x, 0);
+        x.finish(0);
         due("by numbers", x.file(3, 1), 2);
         x.spoil(DATA, 2, 0, 0);
         due("DAMAGED ones too", x.file(3, 1), 2);
@@ -749,13 +621,13 @@ public final class PromiseTests {
     }
 
     private static void promise16() {
-        LakeTable x = new LakeTable();
+        Lake x = new Lake();
         due("at", x.at(-1, 0, 0), NONE);
         x.append(0);
         x.row(0, 6, 4, MISSING, -1);
         x.row(0, 1, 7, 8, 9);
         x.row(0, 6, 5, 5, 5);
-        finish(x, 0);
+        x.finish(0);
         int[][] rows = {{1, 7, 8, 9}, {6, 4, MISSING, -1}, {6, 5, 5, 5}};
         for (int i = 0; i < 3; i++) {
             for (int what = 0; what < 4; what++) {
@@ -775,57 +647,19 @@ public final class PromiseTests {
         x.spoil(DATA, 0, 3, 9);
         due("a DAMAGED FILE has none", x.at(0, 0, 1), 4);
         due("at", x.at(0, 2, 1), NONE);
-        promise16Damage();
-    }
-
-    /** What makes a DATA object DAMAGED though its CHECK is right, and what does not. */
-    private static void promise16Damage() {
-        LakeTable x = new LakeTable();
-        x.append(0);
-        x.row(0, 3, BIG, 1, 1 << 20);
-        x.row(0, 3, BIG, MISSING, 7);
-        x.row(0, 3, BIG, 4, 1 << 21);
-        finish(x, 0);
-        // 3 bytes; way 1, bits, 3 times 2^30, bounds: 3 to 17; way 2, bits, 2 6, bounds: 18 to 29.
-        due("bytes", hex(x, DATA, 0).substring(0, 60), "540303010003400000004000000040000000024002060000000100000004");
-        int[][] hurt = {{0, 85}, {1, 8}, {2, 0}, {2, 2}, {2, 49}, {3, 0}, {3, 2}, {3, 3}, {4, 1}, {4, 16}, {5, 2},
-            {5, 0}, {5, 4}, {6, 128}, {12, 1}, {17, 1}, {18, 1}, {19, 0}, {19, 192}, {20, 130}, {25, 0}, {29, 5}};
-        for (int[] told : hurt) {
-            int was = x.octet(DATA, 0, told[0]);
-            forge(x, DATA, 0, told[0], told[1]);
-            due("rows, byte " + told[0] + " " + told[1], x.at(0, 0, 0), NONE);
-            forge(x, DATA, 0, told[0], was);
-            due("rows", x.at(0, 0, 0), 3);
-        }
-        // Another PARTITION than the log tells, until the log tells it too.
-        forge(x, DATA, 0, 1, 4);
-        due("PARTITION", x.at(0, 0, 0), NONE);
-        forge(x, ENTRY, 0, 11, 4);
-        due("PARTITION", x.at(0, 0, 0), 4);
-        // A run of 2^31, the least int, tells what can't be a VALUE.
-        for (int i = 6; i < 18; i += 4) {
-            x.spoil(DATA, 0, i, 128);
-        }
-        seal(x, DATA, 0);
-        due("the least int", x.at(0, 0, 0), NONE);
-        for (int i = 6; i < 18; i += 4) {
-            x.spoil(DATA, 0, i, 192);
-        }
-        seal(x, DATA, 0);
-        due("another VALUE", x.at(0, 2, 1), -BIG);
     }
 
     private static void promise17() {
-        LakeTable x = new LakeTable();
+        Lake x = new Lake();
         due("find", x.find(0, 0, 0, 0), NONE);
         due("find in version -1", x.find(-1, 0, 0, 0), 0);
         x.append(0);
         x.row(0, 0, 1, -5, MISSING);
         x.row(0, 0, 3, -5, MISSING);
         x.row(0, 0, 3, MISSING, MISSING);
-        x.row(0, 1, 10, Integer.MAX_VALUE, 0);
-        x.row(0, 1, 20, Integer.MAX_VALUE, 0);
-        finish(x, 0);
+        x.row(0, 1, 10, MAX, 0);
+        x.row(0, 1, 20, MAX, 0);
+        x.finish(0);
         found(x, x.find(0, 0, 0, 3), 1, 1, 1, 0, 1);
         found(x, x.find(0, 0, 0, 1), 0, 0, 2, 0, 0);
         found(x, x.find(0, 0, 1, 3), 4, 2, 0, 0, 36);
@@ -838,7 +672,7 @@ public final class PromiseTests {
         found(x, x.find(0, 1, 1, MISSING), 4, 2, 0, 0, -12);
         found(x, x.find(0, 1, 2, MISSING), 0, 0, 2, 0, 0);
         found(x, x.find(0, 1, 0, MISSING), 0, 0, 2, 0, 0);
-        for (int n : new int[] {-1, 3, MISSING, Integer.MAX_VALUE}) {
+        for (int n : new int[] {-1, 3, MISSING, MAX}) {
             due("column", x.find(0, n, 0, 0), NONE);
             due("what", x.find(0, 0, n, 0), NONE);
         }
@@ -850,7 +684,7 @@ public final class PromiseTests {
         due("can't be READ", x.find(0, 0, 0, 0), NONE);
     }
 
-    private static void found(LakeTable x, int got, int rows, int read, int passed, int hurt, int sum) {
+    private static void found(Lake x, int got, int rows, int read, int passed, int hurt, int sum) {
         due("find", got, rows);
         due("read", x.found(0), read);
         due("passed over", x.found(1), passed);
@@ -859,7 +693,7 @@ public final class PromiseTests {
     }
 
     private static void promise18() {
-        LakeTable x = new LakeTable();
+        Lake x = new Lake();
         for (int what = 0; what < 4; what++) {
             due("found ahead of any", x.found(what), 0);
         }
@@ -868,7 +702,7 @@ public final class PromiseTests {
         for (int n : WRONG) {
             due("found", x.found(n), NONE);
         }
-        x = withVersions(3);
+        x = Lake.withVersions(3);
         x.find(2, 0, 1, 1);
         due("find", x.find(2, 0, 3, 1), NONE);
         due("of the latest that was not NONE", x.found(0), 2);
@@ -879,7 +713,7 @@ public final class PromiseTests {
     }
 
     private static void promise19() {
-        LakeTable x = withVersions(1);
+        Lake x = Lake.withVersions(1);
         due("size", x.size(DATA, 0), 40);
         due("size", x.size(ENTRY, 0), 16);
         due("size", x.size(CHECKPOINT, 0), NONE);
@@ -895,7 +729,7 @@ public final class PromiseTests {
     }
 
     private static void promise20() {
-        LakeTable x = withVersions(1);
+        Lake x = Lake.withVersions(1);
         due("octet", x.octet(DATA, 0, 0), 84);
         due("octet", x.octet(ENTRY, 0, 0), 76);
         due("octet", x.octet(ENTRY, 0, 15) >= 0, true);
@@ -912,11 +746,11 @@ public final class PromiseTests {
     }
 
     private static void promise21() {
-        LakeTable x = withVersions(1);
+        Lake x = Lake.withVersions(1);
         due("spoil", x.spoil(DATA, 0, 0, 256 + 7), 84);
         due("spoil", x.spoil(DATA, 0, 0, -1), 7);
         due("spoil", x.spoil(DATA, 0, 0, 84), 255);
-        due("as it was", x.at(0, 0, 3), 2);
+        due("as it was", x.at(0, 0, 3), 0);
         due("spoil", x.spoil(DATA, 0, 40, 1), NONE);
         due("spoil", x.spoil(DATA, 0, -1, 1), NONE);
         due("spoil", x.spoil(CHECKPOINT, 0, 0, 1), NONE);
@@ -934,12 +768,12 @@ public final class PromiseTests {
     }
 
     private static void promise22() {
-        LakeTable x = withVersions(2);
-        appendOne(x, 0, 0, 1);
+        Lake x = Lake.withVersions(2);
+        x.begin(0, 0, 1);
         x.step(0);
         x.step(0);
-        appendOne(x, 1, 0, 1);
-        finish(x, 1);
+        x.begin(1, 0, 1);
+        x.finish(1);
         due("LOST", x.step(0), 4);
         x.crash(0);
         x.checkpoint(1);
@@ -966,42 +800,34 @@ public final class PromiseTests {
         }
     }
 
-    private static void run(String name, Runnable test) {
-        part = name;
-        test.run();
-    }
-
     public static void main(String[] args) {
-        run("promise 1", PromiseTests::promise1);
-        run("promise 2", PromiseTests::promise2);
-        run("promise 3", PromiseTests::promise3);
-        run("promise 4", PromiseTests::promise4);
-        run("promise 5", PromiseTests::promise5);
-        run("promise 5, bytes", PromiseTests::promise5Bytes);
-        run("promise 6", PromiseTests::promise6);
-        run("promise 7", PromiseTests::promise7);
-        run("promise 8", PromiseTests::promise8);
-        run("promise 8, failures", PromiseTests::promise8Failures);
-        run("promise 8, start", PromiseTests::promise8Start);
-        run("promise 9", PromiseTests::promise9);
-        run("promise 10", PromiseTests::promise10);
-        run("promise 11", PromiseTests::promise11);
-        run("promise 12", PromiseTests::promise12);
-        run("promise 12, writers", PromiseTests::promise12Writers);
-        run("promise 12, refused", PromiseTests::promise12Refused);
-        run("promise 13", PromiseTests::promise13);
-        run("promise 14", PromiseTests::promise14);
-        run("promise 15", PromiseTests::promise15);
-        run("promise 16", PromiseTests::promise16);
-        run("promise 17", PromiseTests::promise17);
-        run("promise 18", PromiseTests::promise18);
-        run("promise 19", PromiseTests::promise19);
-        run("promise 20", PromiseTests::promise20);
-        run("promise 21", PromiseTests::promise21);
-        run("promise 22", PromiseTests::promise22);
-        System.out.println(wrong == 0 ? "all answers are as due" : wrong + " answers are not as due");
-        if (wrong != 0) {
-            System.exit(1);
-        }
+        sentence("promise 1", PromiseTests::promise1);
+        sentence("promise 2", PromiseTests::promise2);
+        sentence("promise 3", PromiseTests::promise3);
+        sentence("promise 4", PromiseTests::promise4);
+        sentence("promise 5", PromiseTests::promise5);
+        sentence("promise 5, bytes", PromiseTests::promise5Bytes);
+        sentence("promise 6", PromiseTests::promise6);
+        sentence("promise 7", PromiseTests::promise7);
+        sentence("promise 8", PromiseTests::promise8);
+        sentence("promise 8, failures", PromiseTests::promise8Failures);
+        sentence("promise 8, start", PromiseTests::promise8Start);
+        sentence("promise 9", PromiseTests::promise9);
+        sentence("promise 10", PromiseTests::promise10);
+        sentence("promise 11", PromiseTests::promise11);
+        sentence("promise 12", PromiseTests::promise12);
+        sentence("promise 12, writers", PromiseTests::promise12Writers);
+        sentence("promise 12, refused", PromiseTests::promise12Refused);
+        sentence("promise 13", PromiseTests::promise13);
+        sentence("promise 14", PromiseTests::promise14);
+        sentence("promise 15", PromiseTests::promise15);
+        sentence("promise 16", PromiseTests::promise16);
+        sentence("promise 17", PromiseTests::promise17);
+        sentence("promise 18", PromiseTests::promise18);
+        sentence("promise 19", PromiseTests::promise19);
+        sentence("promise 20", PromiseTests::promise20);
+        sentence("promise 21", PromiseTests::promise21);
+        sentence("promise 22", PromiseTests::promise22);
+        end();
     }
 }
