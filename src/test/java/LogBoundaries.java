@@ -73,6 +73,32 @@ public final class LogBoundaries extends Suite {
         due("FILE 0", x.file(1, 0), 0);
     }
 
+    private static void removeOfOneThatIsNoMore() {
+        Lake x = new Lake();
+        x.add(0, 2, 1);
+        x.add(0, 2, 5);
+        x.cut(0, 2, 0, 2, 1);
+        x.cut(0, 2, 0, 2, 5);
+        due("files", x.files(3), 0);
+        x.forge(ENTRY, 3, 10, 0);
+        due("FILE 0 is REMOVED twice", x.files(3), 1);
+        due("FILE 1", x.file(3, 0), 1);
+    }
+
+    /** ENTRIES 0 and 1 tell each other's ADD. */
+    private static void addOfALesserNumber() {
+        Lake x = new Lake();
+        x.add(0, 2, 20);
+        x.add(0, 3, 30);
+        x.forge(ENTRY, 0, 10, 1, 3);
+        x.forge(ENTRY, 1, 10, 0, 2);
+        due("FILE 0 of version 0", x.file(0, 0), 1);
+        due("FILE 0", x.file(1, 0), 0);
+        due("FILE 1", x.file(1, 1), 1);
+        due("PARTITION of row 0", x.at(1, 0, 0), 2);
+        due("PARTITION of row 1", x.at(1, 1, 0), 3);
+    }
+
     private static void removedAndAddedAgain() {
         Lake x = new Lake();
         x.add(0, 2, 1, 2);
@@ -100,7 +126,8 @@ public final class LogBoundaries extends Suite {
         x.add(0, 3, 1);
         x.cut(0, 0, 0, 2, 1);
         x.checkpoint(2);
-        due("of three", x.hex(CHECKPOINT, 2).substring(0, 42), "430000000203" + "0000000007" + "0000000100" + "0000000203");
+        due("of three", x.hex(CHECKPOINT, 2).substring(0, 42),
+            "430000000203" + "0000000007" + "0000000100" + "0000000203");
         x.checkpoint(3);
         due("of two", x.hex(CHECKPOINT, 3).substring(0, 32), "430000000302" + "0000000007" + "0000000203");
         due("size", x.size(CHECKPOINT, 3), 20);
@@ -337,6 +364,8 @@ public final class LogBoundaries extends Suite {
         sentence("U1 how many actions: REMOVES alone, ADDS alone", LogBoundaries::onlyRemovesOrOnlyAdds);
         sentence("(an ADD of one that is there: nothing)", LogBoundaries::addOfOneThatIsThere);
         sentence("(a REMOVE of one that is not: nothing)", LogBoundaries::removeOfOneThatIsNot);
+        sentence("(a REMOVE of one that is not: nothing): it was", LogBoundaries::removeOfOneThatIsNoMore);
+        sentence("FILE i of a version, by numbers: not as they were added", LogBoundaries::addOfALesserNumber);
         sentence("of ENTRIES 0 to v, in order: REMOVED and added", LogBoundaries::removedAndAddedAgain);
         sentence("those added and not removed: by number", LogBoundaries::removeByNumberAlone);
         sentence("CHECKPOINT v: U1 how many FILES it has, each U4, U1 (by numbers)", LogBoundaries::checkpointBytes);

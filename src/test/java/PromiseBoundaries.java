@@ -85,65 +85,30 @@ public final class PromiseBoundaries extends Suite {
         due("changing nothing", x.room(200), 168);
     }
 
-    /** The VALUE that takes so many bytes when it stands alone. */
-    private static int valueOf(int bytes) {
-        return new int[] {MISSING, 1, 100, 10000, 1 << 20}[bytes];
-    }
-
-    /** An APPEND of one ROW, 53 to 65 bytes of DATA and ENTRY together. */
-    private static String addBytes(Lake x, int bytes) {
-        int values = bytes - 53;
-        x.append(1);
-        x.row(1, 7, valueOf((values + 2) / 3), valueOf((values + 1) / 3), valueOf(values / 3));
-        return x.finish(1);
-    }
-
-    private static int far(int i) {
-        return i % 2 == 0 ? (1 << 30) + i : -(1 << 30) - i;
-    }
-
-    /** DELETES that write most of a long FILE again, then short APPENDS, until there are just so many bytes. */
-    private static Lake filledUpTo(int bytes) {
+    private static void roomOf20000() {
         Lake x = new Lake();
         x.room(20000);
-        x.append(0);
-        for (int i = 0; i < 96; i++) {
-            x.row(0, i % 2, far(i / 2), far(i / 2), far(i / 2));
-        }
-        x.finish(0);
-        int left = bytes - x.count(1);
-        for (int k = 0; left > 1000; k++) {
-            x.cut(0, k % 2, 0, 2, far(47 - k / 2));
-            left = bytes - x.count(1);
-        }
-        for (int many = left / 56; many > 0; many--) {
-            addBytes(x, left / many);
-            left -= left / many;
-        }
-        due("bytes", x.count(1), bytes);
-        return x;
-    }
-
-    private static void roomOf20000() {
-        Lake x = filledUpTo(20000 - 65);
-        due("65 bytes more", addBytes(x, 65), "123");
+        x.fillUpTo(20000 - 65);
+        due("65 bytes more", x.addBytes(65), "123");
         due("bytes", x.count(1), 20000);
         due("not one more", x.checkpoint(x.latest()), -2);
-        x = filledUpTo(20000 - 64);
-        due("65 bytes more", addBytes(x, 65), "12-1");
-        due("bytes", x.count(1), 20000 - 15);
+        x = new Lake();
+        x.room(20000);
+        x.fillUpTo(20000 - 64);
+        due("65 bytes more", x.addBytes(65), "12-1");
+        due("bytes", x.count(1), 20000 - 64 + 49);
     }
 
     private static void roomOf100() {
         Lake x = new Lake();
         x.room(100);
         due("40 + 16 bytes", x.add(0, 0, 1), "123");
-        due("44 more are 100", addBytes(x, 60), "12-1");
+        due("44 more are 100", x.addBytes(60), "12-1");
         due("bytes", x.count(1), 100);
         x = new Lake();
         x.room(100);
         x.add(0, 0, 1);
-        due("45 more are 101", addBytes(x, 61), "1-1");
+        due("45 more are 101", x.addBytes(61), "1-1");
         due("bytes", x.count(1), 56);
     }
 

@@ -358,11 +358,11 @@ public final class RandomRuns {
             }
             TreeMap<Integer, Integer> files = new TreeMap<>();
             int from = 0;
-            for (Map.Entry<Integer, byte[]> e : store.get(CHECKPOINT).headMap(version, true).descendingMap().entrySet()) {
-                TreeMap<Integer, Integer> told = checkpointFiles(e.getKey(), e.getValue());
+            for (int v : store.get(CHECKPOINT).headMap(version, true).descendingKeySet()) {
+                TreeMap<Integer, Integer> told = checkpointFiles(v, store.get(CHECKPOINT).get(v));
                 if (told != null) {
                     files = told;
-                    from = e.getKey() + 1;
+                    from = v + 1;
                     break;
                 }
             }

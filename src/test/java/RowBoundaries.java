@@ -195,7 +195,8 @@ public final class RowBoundaries extends Suite {
 
     private static void otherMarkOrRows() {
         int[][] cases = {{84, 3, 0xe0, 1}, {85, 3, 0xe0, 0}, {76, 3, 0xe0, 0}, {84, 1, 0x80, 1}, {84, 0, 0, 0},
-            {84, 2, 0xe0, 0}, {84, 4, 0xe0, 0}, {84, 4, 0xf0, 1}, {84, 8, 0xff, 1}, {84, 9, 0xff, 0}, {84, 255, 0xff, 0}};
+            {84, 2, 0xe0, 0}, {84, 4, 0xe0, 0}, {84, 4, 0xf0, 1}, {84, 8, 0xff, 1}, {84, 9, 0xff, 0},
+            {84, 255, 0xff, 0}};
         for (int[] c : cases) {
             Lake x = withColumn(MISSING, MISSING, MISSING);
             String empty = String.format("00%02x0000000000000000", c[2]);
@@ -212,6 +213,21 @@ public final class RowBoundaries extends Suite {
         due("fits", x.forge(DATA, 0, "540003" + "00 20 00100000 00100000 00100000 00100000" + EMPTY
             + "00 e0 00000000"), true);
         due("4 bytes too few", x.at(0, 0, 0), NONE);
+    }
+
+    /** Four ROWS become three, and four again. */
+    private static void otherRowsThanBefore() {
+        Lake x = withColumn(1, 2, 3, 9);
+        due("4 ROWS", x.find(0, 0, 1, 0), 4);
+        String others = "00f00000000000000000";
+        due("fits", x.forge(DATA, 0, "540003" + "02 00 80010202 00000040 00000042" + EMPTY + EMPTY), true);
+        due("3 ROWS", x.find(0, 0, 1, 0), 3);
+        due("sum", x.found(3), 64 + 65 + 66);
+        due("row 2", x.at(0, 2, 1), 66);
+        due("row 3", x.at(0, 3, 1), NONE);
+        due("fits", x.forge(DATA, 0, "540004" + "02 00 02020202 00000001 00000004" + others + others), true);
+        due("4 ROWS", x.find(0, 0, 1, 0), 4);
+        due("sum", x.found(3), 10);
     }
 
     /** 70 bytes: two columns of one run, and one of 40 MISSING and 8 VARINTS. */
@@ -256,6 +272,7 @@ public final class RowBoundaries extends Suite {
         sentence("to 48: not 49", RowBoundaries::fortyNineRows);
         sentence("in order", RowBoundaries::rowsInOrder);
         sentence("U1 84, U1 PARTITION, U1 how many", RowBoundaries::otherMarkOrRows);
+        sentence("U1 how many: other ROWS than before", RowBoundaries::otherRowsThanBefore);
         sentence("bits of which are MISSING (1: it is), the first row's the highest", RowBoundaries::missingBits);
         sentence("filled up to whole bytes by 0", RowBoundaries::bitsFilledUp);
         sentence("filled up to whole bytes by 0: not by 1", RowBoundaries::otherBits);

@@ -77,42 +77,16 @@ public final class StoreBoundaries extends Suite {
         due("a greater ROOM", x.add(0, 0, 1), "123");
     }
 
-    /** 5409 bytes by a FILE of 48 ROWS from which the last one is deleted again and again, then up to 5940. */
-    private static Lake almostFull() {
-        Lake x = new Lake();
-        x.append(0);
-        for (int i = 0; i < 48; i++) {
-            x.row(0, 0, far(i), far(i), far(i));
-        }
-        due("steps", x.finish(0), "123");
-        for (int i = 47; i >= 40; i--) {
-            due("steps", x.cut(0, 0, 0, 2, far(i)), "123");
-        }
-        due("bytes", x.count(1), 5409);
-        for (int i = 0; i < 9; i++) {
-            due("steps", x.add(0, 1, 100), "123");
-        }
-        due("bytes", x.count(1), 5940);
-        return x;
-    }
-
-    /** VALUES so far from each other that 4 bytes each are the shortest way. */
-    private static int far(int i) {
-        return i % 2 == 0 ? (1 << 30) + i : -(1 << 30) - i;
-    }
-
     private static void firstRoom() {
-        Lake x = almostFull();
-        x.append(0);
-        x.row(0, 1, 10000, 100, 100);
-        due("60 bytes more", x.finish(0), "123");
+        Lake x = new Lake();
+        x.fillUpTo(6000 - 65);
+        due("65 bytes more", x.addBytes(65), "123");
         due("bytes", x.count(1), 6000);
-        due("not one more", x.checkpoint(0), -2);
-        x = almostFull();
-        x.append(0);
-        x.row(0, 1, 10000, 10000, 100);
-        due("61 bytes more", x.finish(0), "12-1");
-        due("bytes", x.count(1), 5985);
+        due("not one more", x.checkpoint(x.latest()), -2);
+        x = new Lake();
+        x.fillUpTo(6000 - 64);
+        due("65 bytes more", x.addBytes(65), "12-1");
+        due("bytes", x.count(1), 6000 - 64 + 49);
     }
 
     /** Versions 0 to 10 of 8 FILES each. */

@@ -181,6 +181,20 @@ public final class VacuumBoundaries extends Suite {
         due("OLDEST 4: ENTRIES 0 to 2", x.vacuum(1), 3);
     }
 
+    private static void eachWriter() {
+        for (int w = 0; w < 4; w++) {
+            Lake x = Lake.withVersions(2);
+            x.begin(w, 1, 1);
+            x.steps(w, 2);
+            x.cut((w + 1) % 4, 0, 0, 1, 0);
+            x.add((w + 1) % 4, 2, 1);
+            due("writer " + w + ": ENTRIES 0 and 1", x.vacuum(0), 2);
+            stay(x, "0123", "23", "3");
+            x.crash(w);
+            due("writer " + w + ": ENTRY 2 and DATA 0 to 2", x.vacuum(0), 4);
+        }
+    }
+
     private static void baseOfNone() {
         Lake x = withWriter(0);
         due("all are above it", x.vacuum(0), 0);
@@ -264,6 +278,18 @@ public final class VacuumBoundaries extends Suite {
         due("ROWS", x.find(1, 0, 2, 3), 1);
     }
 
+    private static void dataOfItsEarlierWork() {
+        Lake x = Lake.withVersions(1);
+        x.begin(1, 0, 1);
+        x.steps(1, 2);
+        x.crash(1);
+        x.begin(1, 0, 2);
+        x.step(1);
+        due("STARTED, but nothing PUT by this work", x.vacuum(0), 1);
+        stay(x, "0", "0", "0");
+        due("steps", x.finish(1), "23");
+    }
+
     private static void filesOfItsBase() {
         for (int kind = 0; kind < 3; kind++) {
             Lake x = Lake.withVersions(2);
@@ -319,6 +345,7 @@ public final class VacuumBoundaries extends Suite {
         sentence("and ENTRIES below it", VacuumBoundaries::entriesBelow);
         sentence("that are not above the BASE of a writer at work that has STARTED",
             VacuumBoundaries::notAboveABase);
+        sentence("of a writer at work: each of the four", VacuumBoundaries::eachWriter);
         sentence("(NONE: all are above it)", VacuumBoundaries::baseOfNone);
         sentence("not above the BASE of a writer: of several the least", VacuumBoundaries::leastBaseOfSeveral);
         sentence("of a writer at work that has STARTED: no others", VacuumBoundaries::writersThatDoNotMatter);
@@ -326,6 +353,8 @@ public final class VacuumBoundaries extends Suite {
         sentence("Then DATA objects go that no RETAINED version has among its FILES",
             VacuumBoundaries::dataOfRetained);
         sentence("and that no writer at work has PUT", VacuumBoundaries::dataThatAWriterHasPut);
+        sentence("and that no writer at work has PUT: not by its earlier work",
+            VacuumBoundaries::dataOfItsEarlierWork);
         sentence("or has among the FILES of its BASE", VacuumBoundaries::filesOfItsBase);
         sentence("as it STARTED", VacuumBoundaries::filesAsItStarted);
         sentence("as it STARTED: not ahead of that", VacuumBoundaries::filesOfOneNotStarted);

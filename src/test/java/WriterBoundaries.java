@@ -8,7 +8,7 @@ public final class WriterBoundaries extends Suite {
         for (int w = 0; w < 4; w++) {
             due("START of writer " + w, x.step(w), 1);
         }
-        due("writers are at work side by side", x.steps(0, 2) + x.steps(1, 2) + x.steps(2, 2) + x.steps(3, 2), "23242424");
+        due("side by side", x.steps(0, 2) + x.steps(1, 2) + x.steps(2, 2) + x.steps(3, 2), "23242424");
         for (int w : new int[] {-1, 4}) {
             due("append", x.append(w), false);
             due("delete", x.delete(w, 0, 0, 0, 0), false);
@@ -193,6 +193,20 @@ public final class WriterBoundaries extends Suite {
         due("REMOVES", x.writer(3, 5), 0);
     }
 
+    private static void thoseThatHaveSome() {
+        Lake x = new Lake();
+        x.add(0, 0, 1, 9);
+        x.add(0, 0, 1, 5, 9);
+        x.add(0, 0, 2, 8);
+        x.add(0, 0, 5, 5);
+        due("steps", x.cut(0, 0, 0, 2, 5), "123");
+        due("REMOVES", x.writer(0, 5), 2);
+        due("files", x.files(4), 3);
+        due("FILE 0 stays", x.file(4, 0), 0);
+        due("FILE 2 stays", x.file(4, 1), 2);
+        due("what is left of FILE 1", x.file(4, 2), 4);
+    }
+
     private static void filesWithoutAValue() {
         Lake x = new Lake();
         x.append(0);
@@ -258,6 +272,7 @@ public final class WriterBoundaries extends Suite {
         due(name + ": FILES", x.files(2), rows.length);
         for (int f = 0; f < rows.length; f++) {
             due(name + ": FILE " + f, x.octet(DATA, 2 + f, 2), rows[f]);
+            due(name + ": PARTITION of FILE " + f, x.octet(DATA, 2 + f, 1), 2);
         }
         for (int i = 0; i < first + second; i++) {
             due(name + ": row " + i, x.at(2, i, 1) * 100 + x.at(2, i, 2), i < first ? i : 100 + i - first);
@@ -272,6 +287,20 @@ public final class WriterBoundaries extends Suite {
         compacted(1, 48, 48, 1);
         compacted(48, 47, 48, 47);
         compacted(48, 48, 48, 48);
+    }
+
+    /** ROWS of other writers that STARTED ahead of it are not among its own. */
+    private static void compactBehindOthers() {
+        Lake x = new Lake();
+        x.add(0, 7, 1);
+        x.add(0, 7, 2);
+        x.begin(1, 7, 8, 9);
+        x.step(1);
+        x.compact(0, 7);
+        due("START", x.step(0), 1);
+        due("steps", x.finish(0), "23");
+        due("ROWS", x.find(2, 0, 1, 0), 2);
+        due("sum", x.found(3), 3);
     }
 
     private static void appendByPartitions() {
@@ -457,13 +486,14 @@ public final class WriterBoundaries extends Suite {
             x = aboutToCommit(kind);
             x.cut(1, 3, 0, 1, 0);
             due("REMOVES of its PARTITION", x.finish(0), written + "4-2");
-            x = aboutToCommit(kind);
-            x.append(1);
-            x.row(1, 0, 1, 1, 1);
-            x.row(1, 3, 1, 1, 1);
-            x.row(1, 7, 1, 1, 1);
-            x.finish(1);
-            due("one of several", x.finish(0), written + "4-2");
+            for (int other : new int[] {0, 7}) {
+                x = aboutToCommit(kind);
+                x.append(1);
+                x.row(1, other, 1, 1, 1);
+                x.row(1, 3, 1, 1, 1);
+                x.finish(1);
+                due("one of two", x.finish(0), written + "4-2");
+            }
             x = aboutToCommit(kind);
             x.add(1, 2, 9);
             x.add(1, 4, 9);
@@ -531,10 +561,12 @@ public final class WriterBoundaries extends Suite {
         sentence("DAMAGED behind START", WriterBoundaries::damagedBehindStart);
         sentence("that may have such ROWS by the bounds that they tell", WriterBoundaries::filesByBounds);
         sentence("(without a VALUE: none)", WriterBoundaries::filesWithoutAValue);
+        sentence("those that have some are REMOVED", WriterBoundaries::thoseThatHaveSome);
         sentence("what is left of each, if anything, is one new DATA object", WriterBoundaries::whatIsLeft);
         sentence("A COMPACT wants all FILES of its PARTITION, if they are two or more",
             WriterBoundaries::twoOrMoreFiles);
         sentence("new DATA objects of 48 ROWS (the last one of what is left)", WriterBoundaries::fortyEightRows);
+        sentence("and their ROWS: of no others", WriterBoundaries::compactBehindOthers);
         sentence("one DATA object for each PARTITION, by PARTITIONS (ROWS in the order they came)",
             WriterBoundaries::appendByPartitions);
         sentence("One that adds and removes nothing is DONE at once (without a version)",

@@ -160,6 +160,44 @@ final class Lake {
         return x;
     }
 
+    // ---------------------------------------------------------------- a full store
+
+    /** VALUES so far from each other that 4 bytes each are the shortest way. */
+    private static int far(int i) {
+        return i % 2 == 0 ? (1 << 30) + i : -(1 << 30) - i;
+    }
+
+    /** The VALUE that takes so many bytes when it stands alone. */
+    private static int valueOf(int bytes) {
+        return new int[] {Integer.MIN_VALUE, 1, 100, 10000, 1 << 20}[bytes];
+    }
+
+    /** An APPEND of one ROW: 53 to 65 bytes, 16 of them the ENTRY's. */
+    String addBytes(int bytes) {
+        int values = bytes - 53;
+        append(1);
+        row(1, 7, valueOf((values + 2) / 3), valueOf((values + 1) / 3), valueOf(values / 3));
+        return finish(1);
+    }
+
+    /** Fills an empty store: DELETES that write most of a long FILE again, then short APPENDS. */
+    void fillUpTo(int bytes) {
+        append(0);
+        for (int i = 0; i < 96; i++) {
+            row(0, i % 2, far(i / 2), far(i / 2), far(i / 2));
+        }
+        finish(0);
+        int left = bytes - count(1);
+        for (int k = 0; left > 1000; k++) {
+            cut(0, k % 2, 0, 2, far(47 - k / 2));
+            left = bytes - count(1);
+        }
+        for (int many = (left + 29) / 59; many > 0; many--) {
+            addBytes(left / many);
+            left -= left / many;
+        }
+    }
+
     // ---------------------------------------------------------------- bytes
 
     byte[] bytes(int sort, int number) {
