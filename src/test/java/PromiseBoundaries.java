@@ -429,6 +429,10 @@ public final class PromiseBoundaries extends Suite {
         x.spoil(CHECKPOINT, 1, 0, 0);
         due("it has one, DAMAGED", x.checkpoint(1), 0);
         due("DAMAGED as it was", x.octet(CHECKPOINT, 1, 0), 0);
+        x.spoil(CHECKPOINT, 0, 0, 0);
+        x.spoil(ENTRY, 0, 0, 0);
+        due("the version can't be READ", x.files(1), NONE);
+        due("it has one all the same", x.checkpoint(1), 0);
     }
 
     private static void checkpointOfNoVersion() {
