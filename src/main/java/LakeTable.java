@@ -1233,7 +1233,7 @@ public final class LakeTable {
         int takeUnwanted() {
             int before = blobs.size();
             for (int i = before - 1; i >= 0; i--) {
-                if (!blobs.get(i).wanted) {
+                if (i < blobs.size() && !blobs.get(i).wanted) {
                     blobs.remove(i);
                 }
             }

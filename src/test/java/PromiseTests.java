@@ -800,6 +800,28 @@ public final class PromiseTests extends Suite {
         }
     }
 
+    /** The run that README.md tells, with the answers that it tells. */
+    private static void readme() {
+        Lake x = new Lake();
+        due("append", x.append(0), true);
+        due("row", x.row(0, 2, 10, 20, MISSING), 1);
+        due("row", x.row(0, 2, 11, 20, 7), 2);
+        due("steps", x.steps(0, 3), "123");
+        due("latest", x.latest(), 0);
+        due("find", x.find(0, 0, 1, 11), 1);
+        due("found", x.found(3), 11);
+        due("delete", x.delete(1, 2, 0, 2, 10), true);
+        due("steps", x.finish(1), "123");
+        due("writer", x.writer(1, 0), 0);
+        due("at", x.at(1, 0, 1), 11);
+        due("files", x.files(0), 1);
+        due("vacuum", x.vacuum(0), 2);
+        due("ENTRY 0 went", x.size(ENTRY, 0), NONE);
+        due("DATA object 0 went", x.size(DATA, 0), NONE);
+        due("files", x.files(0), NONE);
+        due("files", x.files(1), 1);
+    }
+
     public static void main(String[] args) {
         sentence("promise 1", PromiseTests::promise1);
         sentence("promise 2", PromiseTests::promise2);
@@ -828,6 +850,7 @@ public final class PromiseTests extends Suite {
         sentence("promise 20", PromiseTests::promise20);
         sentence("promise 21", PromiseTests::promise21);
         sentence("promise 22", PromiseTests::promise22);
+        sentence("the run of README.md", PromiseTests::readme);
         end();
     }
 }

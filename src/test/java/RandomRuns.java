@@ -1002,9 +1002,67 @@ public final class RandomRuns {
             }
         }
 
+        void appendRows(int w, int p, int rows) {
+            same("append(" + w + ")", table.append(w), model.append(w));
+            for (int i = 0; i < rows; i++) {
+                row(w, p, i / 4, number(), i);
+            }
+            finish(w);
+        }
+
+        /** What random calls alone seldom come to. */
+        void prepare(int shape) {
+            if (shape == 1) {
+                // Long FILES of one PARTITION: what a COMPACT makes of them are several DATA objects.
+                same("room(20000)", table.room(20000), model.room(20000));
+                for (int k = 0; k < 4; k++) {
+                    appendRows(k % 4, 0, 20 + dice.nextInt(29));
+                }
+                same("compact(1,0)", table.compact(1, 0), model.compact(1, 0));
+            } else if (shape == 2) {
+                // As many OBJECTS as a store may have, or nearly.
+                int many = 44 + dice.nextInt(6);
+                for (int k = 0; k < many; k++) {
+                    appendRows(k % 4, dice.nextInt(3), 1);
+                }
+            } else if (shape == 3) {
+                // All writers at work on one BASE, with TRIES enough to look at all that the others commit.
+                same("tries(8)", table.tries(8), model.tries(8));
+                appendRows(0, 0, 2);
+                appendRows(0, 1, 2);
+                for (int k = 0; k < 6; k++) {
+                    contend();
+                }
+            }
+        }
+
+        void contend() {
+            for (int w = 0; w < 4; w++) {
+                int p = dice.nextInt(4);
+                if (dice.nextInt(3) > 0) {
+                    same("append(" + w + ")", table.append(w), model.append(w));
+                    row(w, p, w, p, 0);
+                } else if (dice.nextBoolean()) {
+                    same("delete(" + w + "," + p + ",0,2," + w + ")", table.delete(w, p, 0, 2, w),
+                        model.delete(w, p, 0, 2, w));
+                } else {
+                    same("compact(" + w + "," + p + ")", table.compact(w, p), model.compact(w, p));
+                }
+                step(w);
+            }
+            for (int i = 0; i < 14; i++) {
+                step(dice.nextInt(4));
+            }
+            if (dice.nextBoolean()) {
+                int n = dice.nextInt(3);
+                same("vacuum(" + n + ")", table.vacuum(n), model.vacuum(n));
+            }
+        }
+
         /** So many calls that change things or ask, then looks until nothing more is promised. */
         void go(int many, int harm) {
-            while (told.size() < many && !failed) {
+            int end = Math.min(told.size() + many, PROMISED_CALLS - 80);
+            while (told.size() < end && !failed) {
                 int kind = dice.nextInt(100);
                 if (kind < 18) {
                     begin();
@@ -1030,7 +1088,9 @@ public final class RandomRuns {
     public static void main(String[] args) {
         int runs = args.length > 0 ? Integer.parseInt(args[0]) : 6000;
         for (int r = 0; r < runs; r++) {
-            new Run(r).go(60 + r % 5 * 85, r % 3 * 4);
+            Run run = new Run(r);
+            run.prepare(Math.max(r % 7 - 3, 0));
+            run.go(60 + r % 5 * 85, r % 3 * 4);
         }
         System.out.println(calls + " calls; " + seen);
         System.out.println(wrong == 0 ? "all answers are as due" : wrong + " runs have answers that are not as due");
